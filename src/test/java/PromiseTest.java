@@ -68,6 +68,7 @@ public final class PromiseTest {
         for (promise = 1; promise <= 35; promise++) {
             test(promise);
         }
+        byFar();
         System.out.println(wrong == 0 ? "35 promises hold" : wrong + " answers are wrong");
         if (wrong != 0) {
             System.exit(1);
@@ -112,6 +113,64 @@ public final class PromiseTest {
             case 34: check(); break;
             default: count();
         }
+    }
+
+    /** What hangs on FAR, asked at once when FAR is another, and behind a call that tries all of them. */
+    private static void byFar() {
+        promise = 2;
+        PointOrShoot x = by("a10(f=6);b10(f=7);h10(f=9);k10(f=9)");
+        rule(x, 0, "r2(f=9)");
+        x.far(6);
+        due("points at 6", x.drawn(-1, -1, 10000, 100, 1), 1);
+        x.far(9);
+        due("it takes the place at 9", x.drawn(-1, -1, 10000, 100, 1), 1);
+        due("it shoots", x.log(10), 2);
+        x.toThrow(0, 0);
+        due("wrong behind all FARS", x.wrong(0, 0), 0);
+        x.far(6);
+        x.drawn(0, 0, 10000, 1000, 1);
+        due("it points at 6", x.log(10), 1);
+        x.far(9);
+        due("likely", x.likely(10000, 100, 1, 1), 100);
+        x.far(7);
+        due("likely", x.likely(10000, 100, 1, 1), 0);
+        x.far(9);
+        due("by", x.by(0, 0, 10000, 100, 1, 0), 100);
+        x.far(7);
+        due("by", x.by(0, 0, 10000, 100, 1, 0), 0);
+        x.far(9);
+        due("goFor", x.goFor(10000, 100, 1, 1, 0), 100);
+        x.far(7);
+        due("goFor", x.goFor(10000, 100, 1, 1, 0), 0);
+        x.far(9);
+        due("best", x.best(10000, 100, 1, 0), 100);
+        x.far(7);
+        due("best", x.best(10000, 100, 1, 0), 0);
+        x.far(6);
+        x.drawn(-1, -1, 10000, 1000, 1);
+        x.far(9);
+        x.drawn(-1, 0, 10000, 100, 1);
+        x.toThrow(1, 0);
+        due("the WORST behind all FARS", x.wrong(0, 2), 0);
+        PointOrShoot y = by("a10(i=0&f=7);h10(i=1)");
+        rule(y, 2, "r1(i=i)");
+        y.far(7);
+        due("game", y.game(0), 3 * END);
+        y.far(8);
+        due("game", y.game(0), 0);
+        y.toThrow(0, 0);
+        y.far(7);
+        due("game", y.game(2), 3 * END);
+        PointOrShoot z = by("a2+f-6(i=i);h8(i=i)");
+        rule(z, 1, "r1(i=i)");
+        z.far(6);
+        z.drawn(1, 1, 1000, 10000, 0);
+        // At 6 to point leaves 80 hundredths, to shoot 20.
+        due("wrong at 6", z.wrong(0, 0), 60);
+        z.toThrow(0, 0);
+        due("wrong at 6 behind all FARS", z.wrong(0, 0), 60);
+        z.toThrow(1, 0);
+        due("the WORST at 6 behind all FARS", z.wrong(0, 2), 60);
     }
 
     private static void newObject() {
@@ -449,6 +508,9 @@ public final class PromiseTest {
             most.append("0");
         }
         badGround(most.toString(), -6008);
+        feed(x, most + "0");
+        due("121 bytes", x.ground(121), -1);
+        due("tape stays", x.count(2), 140);
     }
 
     private static void turn() {
@@ -470,6 +532,10 @@ public final class PromiseTest {
         for (int code : bad) {
             due("CODE " + code, x.turn(code, 30000, 0), -1);
             due("CODE " + code, x.turn(30000, code, 0), -1);
+        }
+        for (int code = 0; code <= 40000; code++) {
+            int inAll = code / 10000 + code / 1000 % 10 + code / 100 % 10 + code / 10 % 10 + code % 10;
+            due("CODE " + code, x.turn(code, 30000, 0) >= 0 ? 1 : 0, inAll <= 3 ? 1 : 0);
         }
         due("SIDE 2", x.turn(30000, 30000, 2), -1);
         due("SIDE -1", x.turn(30000, 30000, -1), -1);
