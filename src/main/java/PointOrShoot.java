@@ -26,11 +26,11 @@ public final class PointOrShoot {
     private int farNow = 8;
     private int drawing = 1;
     private final Tape tape = new Tape();
-    private final Codes codes = new Codes();
     private final ClauseReader reader = new ClauseReader();
-    private final Program lawNow = new Program();
-    private final Program[] rules = {new Program(), new Program(), new Program(), new Program()};
-    private final Ends ends = new Ends(codes, lawNow, rules);
+    private final Ends ends = new Ends();
+    private final Codes codes = ends.codes;
+    private final Program lawNow = ends.law;
+    private final Program[] rules = ends.rules;
     private final Match matches = new Match();
     private final Log logged = new Log();
     private final Heights heights = new Heights();
@@ -210,7 +210,7 @@ public final class PointOrShoot {
         long value = 0;
         for (int mine = 0; mine < RULES; mine++) {
             if (isTold(mine)) {
-                long worst = what < 2 ? leastOf(mine) : greatestAgainst(mine);
+                long worst = worstFor(mine, what < 2);
                 if (chosen == NONE || (what < 2 ? worst > value : worst < value)) {
                     chosen = mine;
                     value = worst;
@@ -481,28 +481,16 @@ public final class PointOrShoot {
         return x >= 0 && x <= 99 && y >= 0 && y <= 99;
     }
 
-    private long valueOfGame(int j, int k) {
-        return ends.valueOfGame(farNow, j, k);
-    }
-
-    private long leastOf(int j) {
-        long least = MORE_THAN_ANY;
-        for (int k = 0; k < RULES; k++) {
-            if (isTold(k)) {
-                least = Math.min(least, valueOfGame(j, k));
+    /** The worst value over the other side's rules, with side 0 (else side 1) by one. */
+    private long worstFor(int mine, boolean isSide0) {
+        long worst = isSide0 ? MORE_THAN_ANY : -MORE_THAN_ANY;
+        for (int theirs = 0; theirs < RULES; theirs++) {
+            if (isTold(theirs)) {
+                long value = ends.valueOfGame(farNow, isSide0 ? mine : theirs, isSide0 ? theirs : mine);
+                worst = isSide0 ? Math.min(worst, value) : Math.max(worst, value);
             }
         }
-        return least;
-    }
-
-    private long greatestAgainst(int k) {
-        long greatest = -MORE_THAN_ANY;
-        for (int j = 0; j < RULES; j++) {
-            if (isTold(j)) {
-                greatest = Math.max(greatest, valueOfGame(j, k));
-            }
-        }
-        return greatest;
+        return worst;
     }
 
     private void drawThrow() {
@@ -588,8 +576,8 @@ public final class PointOrShoot {
             }
         }
 
-        private void addStep(int kind, int argument) {
-            add(kind << KIND_SHIFT | argument & ARGUMENT);
+        private static int step(int kind, int argument) {
+            return kind << KIND_SHIFT | argument & ARGUMENT;
         }
 
         private void put(int place, int step) {
@@ -691,36 +679,30 @@ public final class PointOrShoot {
             return true;
         }
 
+        /** Reads a C: a skip leaves out what does not matter, to the end of the piece or part that it stands ahead of. */
         private boolean readCondition(int depth) {
-            if (!readPart(depth)) {
-                return false;
-            }
-            for (int i = 0; i < MOST_TEXT && next() == '|'; i++) {
-                at++;
-                int skip = out.size;
-                out.add(0);
-                if (!readPart(depth)) {
-                    return false;
-                }
-                out.put(skip, Program.SKIP_IF_TRUE << Program.KIND_SHIFT | out.size);
-            }
-            return true;
-        }
-
-        private boolean readPart(int depth) {
-            if (!readPiece(depth)) {
-                return false;
-            }
-            for (int i = 0; i < MOST_TEXT && next() == '&'; i++) {
-                at++;
-                int skip = out.size;
-                out.add(0);
+            int skipPiece = NONE;
+            int skipPart = NONE;
+            for (int i = 0; i < MOST_TEXT; i++) {
                 if (!readPiece(depth)) {
                     return false;
                 }
-                out.put(skip, Program.SKIP_IF_FALSE << Program.KIND_SHIFT | out.size);
+                out.put(skipPiece, Program.step(Program.SKIP_IF_FALSE, out.size));
+                skipPiece = NONE;
+                int sign = next();
+                if (sign == '&') {
+                    skipPiece = out.size;
+                } else {
+                    out.put(skipPart, Program.step(Program.SKIP_IF_TRUE, out.size));
+                    if (sign != '|') {
+                        return true;
+                    }
+                    skipPart = out.size;
+                }
+                out.add(0);
+                at++;
             }
-            return true;
+            return refuse(WRONG_SIGN);
         }
 
         private boolean readPiece(int depth) {
@@ -729,59 +711,56 @@ public final class PointOrShoot {
                 if (!open(depth) || !readPiece(depth + 1)) {
                     return false;
                 }
-                out.addStep(Program.SIGN, sign);
+                out.add(Program.step(Program.SIGN, sign));
                 return true;
             }
             if (sign == '(') {
                 return open(depth) && readCondition(depth + 1) && pass(')');
             }
-            return readComparison(depth);
-        }
-
-        private boolean readComparison(int depth) {
             if (!readSum(depth)) {
                 return false;
             }
-            int sign = next();
-            if (sign != '<' && sign != '>' && sign != '=') {
+            int comparing = next();
+            if (comparing != '<' && comparing != '>' && comparing != '=') {
                 return refuse(WRONG_SIGN);
             }
             at++;
             if (!readSum(depth)) {
                 return false;
             }
-            out.addStep(Program.SIGN, sign);
+            out.add(Program.step(Program.SIGN, comparing));
             return true;
         }
 
+        /** Reads an E: a sign's step stands behind both that it joins, from the left on. */
         private boolean readSum(int depth) {
-            if (!readProduct(depth)) {
-                return false;
-            }
-            for (int i = 0; i < MOST_TEXT && (next() == '+' || next() == '-'); i++) {
-                int sign = next();
-                at++;
-                if (!readProduct(depth)) {
-                    return false;
-                }
-                out.addStep(Program.SIGN, sign);
-            }
-            return true;
-        }
-
-        private boolean readProduct(int depth) {
-            if (!readFactor(depth)) {
-                return false;
-            }
-            for (int i = 0; i < MOST_TEXT && (next() == '*' || next() == '/' || next() == '%'); i++) {
-                int sign = next();
-                at++;
+            int adding = NONE;
+            int multiplying = NONE;
+            for (int i = 0; i < MOST_TEXT; i++) {
                 if (!readFactor(depth)) {
                     return false;
                 }
-                out.addStep(Program.SIGN, sign);
+                addSign(multiplying);
+                multiplying = NONE;
+                int sign = next();
+                if (sign == '*' || sign == '/' || sign == '%') {
+                    multiplying = sign;
+                } else {
+                    addSign(adding);
+                    if (sign != '+' && sign != '-') {
+                        return true;
+                    }
+                    adding = sign;
+                }
+                at++;
             }
-            return true;
+            return refuse(WRONG_SIGN);
+        }
+
+        private void addSign(int sign) {
+            if (sign != NONE) {
+                out.add(Program.step(Program.SIGN, sign));
+            }
         }
 
         private boolean readFactor(int depth) {
@@ -797,7 +776,7 @@ public final class PointOrShoot {
                 return refuse(WRONG_SIGN);
             }
             at++;
-            out.addStep(Program.LETTER, letter);
+            out.add(Program.step(Program.LETTER, letter));
             return true;
         }
 
@@ -810,7 +789,7 @@ public final class PointOrShoot {
             if (isDigit(next())) {
                 return refuse(SIXTH_DIGIT);
             }
-            out.addStep(Program.NUMBER, number);
+            out.add(Program.step(Program.NUMBER, number));
             return true;
         }
 
@@ -865,7 +844,6 @@ public final class PointOrShoot {
         private final int[] letters = new int[9];
         private final int[] stack = new int[STACK];
         private int height;
-        private boolean isRefused;
 
         /** The E of the first clause of a letter whose C holds; 0 without one. */
         private int tell(Program program, int letter) {
@@ -884,55 +862,35 @@ public final class PointOrShoot {
         /** What the steps leave; 0 (which is no C that holds, too) if one of them is refused. */
         private int run(Program program, int from, int to) {
             height = 0;
-            isRefused = false;
             int resume = from;
-            for (int i = from; i < to && !isRefused; i++) {
+            for (int i = from; i < to; i++) {
                 if (i >= resume) {
                     int step = at(program.steps, i);
-                    resume = Math.max(resume, doStep(step >> Program.KIND_SHIFT, step & Program.ARGUMENT));
+                    int kind = step >> Program.KIND_SHIFT;
+                    int argument = step & Program.ARGUMENT;
+                    if (kind == Program.NUMBER) {
+                        push(argument);
+                    } else if (kind == Program.LETTER) {
+                        push(at(letters, argument));
+                    } else if (kind != Program.SIGN) {
+                        boolean isTrue = pop() != 0;
+                        if (isTrue == (kind == Program.SKIP_IF_TRUE)) {
+                            push(isTrue ? 1 : 0);
+                            resume = argument;
+                        }
+                    } else if (argument == '!') {
+                        push(pop() == 0 ? 1 : 0);
+                    } else {
+                        int second = pop();
+                        int first = pop();
+                        if (second == 0 && (argument == '/' || argument == '%')) {
+                            return 0;
+                        }
+                        push(joined(argument, first, second));
+                    }
                 }
             }
-            return isRefused ? 0 : pop();
-        }
-
-        /** Does a step and tells ahead of which place all others are left out (0: none). */
-        private int doStep(int kind, int argument) {
-            switch (kind) {
-                case Program.NUMBER:
-                    push(argument);
-                    return 0;
-                case Program.LETTER:
-                    push(at(letters, argument));
-                    return 0;
-                case Program.SIGN:
-                    doSign(argument);
-                    return 0;
-                default:
-                    return doSkip(kind == Program.SKIP_IF_TRUE, argument);
-            }
-        }
-
-        private int doSkip(boolean isIfTrue, int target) {
-            int truth = pop();
-            if (truth != 0 == isIfTrue) {
-                push(truth);
-                return target;
-            }
-            return 0;
-        }
-
-        private void doSign(int sign) {
-            int second = pop();
-            if (sign == '!') {
-                push(second == 0 ? 1 : 0);
-                return;
-            }
-            int first = pop();
-            if ((sign == '/' || sign == '%') && second == 0) {
-                isRefused = true;
-                return;
-            }
-            push(joined(sign, first, second));
+            return pop();
         }
 
         private static int joined(int sign, int first, int second) {
@@ -986,7 +944,6 @@ public final class PointOrShoot {
             20000, 20001, 20010, 20100, 21000,
             30000
         };
-        private static final int[] RING_UNITS = {1000, 100, 10, 1};
 
         private final int[] hands = new int[MANY];
         private final int[] bestRings = new int[MANY];
@@ -999,21 +956,26 @@ public final class PointOrShoot {
 
         private Codes() {
             for (int p = 0; p < MANY; p++) {
-                int code = CODES[p];
-                hands[p] = code / 10000;
+                int hand = CODES[p] / 10000;
+                hands[p] = hand;
                 bestRings[p] = NO_RING;
                 without[p] = p;
+                thrown[5 * p + NO_RING] = hand > 0 ? placeOf(CODES[p] - 10000) : p;
+                int rest = CODES[p];
+                int unit = 1;
                 for (int ring = 3; ring >= 0; ring--) {
-                    if (code / RING_UNITS[ring] % 10 > 0) {
+                    below[5 * p + ring + 1] = rest % 10;
+                    if (rest % 10 > 0) {
                         bestRings[p] = ring;
-                        without[p] = placeOf(code - RING_UNITS[ring]);
+                        without[p] = placeOf(CODES[p] - unit);
                     }
+                    thrown[5 * p + ring] = hand > 0 ? placeOf(CODES[p] - 10000 + unit) : p;
+                    rest /= 10;
+                    unit *= 10;
                 }
-                for (int ring = 0; ring < 4; ring++) {
-                    below[5 * p + ring + 1] = below[5 * p + ring] + code / RING_UNITS[ring] % 10;
-                    thrown[5 * p + ring] = hands[p] > 0 ? placeOf(code - 10000 + RING_UNITS[ring]) : p;
+                for (int ring = 1; ring <= NO_RING; ring++) {
+                    below[5 * p + ring] += below[5 * p + ring - 1];
                 }
-                thrown[5 * p + NO_RING] = hands[p] > 0 ? placeOf(code - 10000) : p;
             }
         }
 
@@ -1103,9 +1065,9 @@ public final class PointOrShoot {
         private static final int BEST_SHIFT = 21;
         private static final int COUNTS = 2 * MOST_POINTS + 1;
 
-        private final Codes codes;
-        private final Program law;
-        private final Program[] rules;
+        private final Codes codes = new Codes();
+        private final Program law = new Program();
+        private final Program[] rules = {new Program(), new Program(), new Program(), new Program()};
         private final Reckoner reckoner = new Reckoner();
         private int far = 8;
         /** Of a state: a, b, c, h, k at four bits each, KNOWN, and the best throw (0: not yet known). */
@@ -1119,10 +1081,7 @@ public final class PointOrShoot {
         private final long[] beginCounts = new long[2 * COUNTS];
         private int beginCountsFar = NONE;
 
-        private Ends(Codes codes, Program law, Program[] rules) {
-            this.codes = codes;
-            this.law = law;
-            this.rules = rules;
+        private Ends() {
             Arrays.fill(begins, UNKNOWN);
         }
 
@@ -1163,7 +1122,7 @@ public final class PointOrShoot {
         }
 
         private long valueOrThrow(int p, int q, int last, int what) {
-            return what == 0 ? worthOf(p, q, last, 0) : throwAt(p, q, last);
+            return what == 0 ? settle(p, q, last, 0) >> 1 : throwAt(p, q, last);
         }
 
         private int throwAt(int p, int q, int last) {
@@ -1173,18 +1132,14 @@ public final class PointOrShoot {
             return (settle(p, q, last, 0) & 1) == 0 ? POINTING : SHOOTING;
         }
 
+        /** An aim at a count goes by the best throws: these must be known from the state on. */
         private long chanceOfCount(int p, int q, int last, int count) {
-            learnBest(p, q, last);
-            takeAim(EXACTLY, count, 0);
-            return worthOf(p, q, last, 0);
-        }
-
-        /** Makes the best throws known from a state on: an aim at a count goes by them. */
-        private void learnBest(int p, int q, int last) {
             if (codes.whoPlays(p, q, last) != OVER && bestThrowAt(spotOf(p, q, last)) == 0) {
                 aimBy(NONE, NONE);
-                worthOf(p, q, last, 0);
+                settle(p, q, last, 0);
             }
+            takeAim(EXACTLY, count, 0);
+            return settle(p, q, last, 0) >> 1;
         }
 
         private long beginValue(int n, int firstSide) {
@@ -1195,7 +1150,7 @@ public final class PointOrShoot {
             if (begins[i] == UNKNOWN) {
                 standAt(n);
                 aimBy(NONE, NONE);
-                begins[i] = worthOf(Codes.BEGIN, Codes.BEGIN, 1 - firstSide, 0);
+                begins[i] = settle(Codes.BEGIN, Codes.BEGIN, 1 - firstSide, 0) >> 1;
             }
             return begins[i];
         }
@@ -1203,15 +1158,13 @@ public final class PointOrShoot {
         private long valueOfGame(int n, int j, int k) {
             standAt(n);
             aimBy(j, k);
-            return worthOf(Codes.BEGIN, Codes.BEGIN, 1, 0);
+            return settle(Codes.BEGIN, Codes.BEGIN, 1, 0) >> 1;
         }
 
         /** Chances of -3 to 3 at the begin: seven with side 0 to play first, seven with side 1. */
         private long[] beginCounts(int n) {
             if (beginCountsFar != n) {
                 standAt(n);
-                learnBest(Codes.BEGIN, Codes.BEGIN, 0);
-                learnBest(Codes.BEGIN, Codes.BEGIN, 1);
                 for (int i = 0; i < COUNTS; i++) {
                     beginCounts[i] = chanceOfCount(Codes.BEGIN, Codes.BEGIN, 1, i - MOST_POINTS);
                     beginCounts[COUNTS + i] = chanceOfCount(Codes.BEGIN, Codes.BEGIN, 0, i - MOST_POINTS);
@@ -1227,7 +1180,7 @@ public final class PointOrShoot {
             if (side == OVER) {
                 return 0;
             }
-            long lost = worthOf(p, q, last, 0) - worthOfThrow(throwing, p, q, last, 0);
+            long lost = (settle(p, q, last, 0) >> 1) - worthOfThrow(throwing, p, q, last, 0);
             return Math.max(0, side == 0 ? lost : -lost);
         }
 
@@ -1259,13 +1212,6 @@ public final class PointOrShoot {
             return at(tenths, spot) >> BEST_SHIFT;
         }
 
-        private long worthOf(int p, int q, int last, int depth) {
-            if (codes.whoPlays(p, q, last) == OVER) {
-                return worthOfCount(codes.pointsNow(p, q));
-            }
-            return settle(p, q, last, depth) >> 1;
-        }
-
         private long worthOfCount(int count) {
             if (aim == BY) {
                 return count;
@@ -1273,40 +1219,36 @@ public final class PointOrShoot {
             return (aim == AT_LEAST ? count >= first : count == first) ? 1 : 0;
         }
 
+        /** Twice what a state is worth by the aim, 1 more if the throw there is to shoot. */
         private long settle(int p, int q, int last, int depth) {
+            int side = codes.whoPlays(p, q, last);
+            if (side == OVER) {
+                return 2 * worthOfCount(codes.pointsNow(p, q));
+            }
             int spot = spotOf(p, q, last);
             if (depth > MOST_THROWS || spot < 0 || spot >= STATES) {
                 return 0;
             }
             if (worths[spot] == UNKNOWN) {
-                worths[spot] = decide(p, q, last, depth);
+                int told = throwTold(p, q, last, side);
+                long pointing = told == SHOOTING ? 0 : worthOfThrow(POINTING, p, q, last, depth);
+                long shooting = told == POINTING ? 0 : worthOfThrow(SHOOTING, p, q, last, depth);
+                boolean isBetter = side == 0 ? shooting > pointing : shooting < pointing;
+                boolean shoots = told == 0 ? isBetter : told == SHOOTING;
+                worths[spot] = shoots ? 2 * shooting + 1 : 2 * pointing;
                 if (aim == BY && first == NONE && second == NONE) {
-                    int best = (worths[spot] & 1) == 0 ? POINTING : SHOOTING;
+                    int best = shoots ? SHOOTING : POINTING;
                     tenths[spot] = tenths[spot] & (1 << BEST_SHIFT) - 1 | best << BEST_SHIFT;
                 }
             }
             return worths[spot];
         }
 
-        private long decide(int p, int q, int last, int depth) {
-            int side = codes.whoPlays(p, q, last);
-            boolean canShoot = codes.canShoot(p, q, side);
-            int told = throwTold(p, q, last, side);
-            if (told == SHOOTING && canShoot) {
-                return 2 * worthOfThrow(SHOOTING, p, q, last, depth) + 1;
-            }
-            long pointing = worthOfThrow(POINTING, p, q, last, depth);
-            if (told == 0 && canShoot) {
-                long shooting = worthOfThrow(SHOOTING, p, q, last, depth);
-                if (side == 0 ? shooting > pointing : shooting < pointing) {
-                    return 2 * shooting + 1;
-                }
-            }
-            return 2 * pointing;
-        }
-
         /** The throw that the side has no choice about; 0: it may choose. */
         private int throwTold(int p, int q, int last, int side) {
+            if (!codes.canShoot(p, q, side)) {
+                return POINTING;
+            }
             if (aim == EXACTLY) {
                 return bestThrowAt(spotOf(p, q, last));
             }
@@ -1329,9 +1271,10 @@ public final class PointOrShoot {
                 if (chance > 0) {
                     int mine = codes.mineBehind(p, q, side, part);
                     int theirs = codes.theirsBehind(p, q, side, part);
-                    sum += chance * (side == 0
-                            ? worthOf(mine, theirs, side, depth + 1)
-                            : worthOf(theirs, mine, side, depth + 1));
+                    long twice = side == 0
+                            ? settle(mine, theirs, side, depth + 1)
+                            : settle(theirs, mine, side, depth + 1);
+                    sum += chance * (twice >> 1);
                 }
             }
             return sum;
@@ -1368,16 +1311,18 @@ public final class PointOrShoot {
             }
             if ((tenths[spot] & KNOWN) == 0) {
                 tellLetters(p, q, last, codes.whoPlays(p, q, last));
-                int a = tenthsOf('a');
-                int b = Math.min(tenthsOf('b'), 10 - a);
-                int c = Math.min(tenthsOf('c'), 10 - a - b);
-                tenths[spot] |= a | b << 4 | c << 8 | tenthsOf('h') << 12 | tenthsOf('k') << 16 | KNOWN;
+                int a = bounded(reckoner.tell(law, 'a'), 10);
+                int b = bounded(reckoner.tell(law, 'b'), 10 - a);
+                int c = bounded(reckoner.tell(law, 'c'), 10 - a - b);
+                int h = bounded(reckoner.tell(law, 'h'), 10);
+                int k = bounded(reckoner.tell(law, 'k'), 10);
+                tenths[spot] |= a | b << 4 | c << 8 | h << 12 | k << 16 | KNOWN;
             }
             return tenths[spot];
         }
 
-        private int tenthsOf(int letter) {
-            return Math.max(0, Math.min(10, reckoner.tell(law, letter)));
+        private static int bounded(int number, int most) {
+            return Math.max(0, Math.min(most, number));
         }
 
         private void tellLetters(int p, int q, int last, int side) {
