@@ -174,14 +174,7 @@ public final class LanguageTest {
 
     private static void feedText(PointOrShoot x, boolean isLaw) {
         String text = isLaw ? "a5-s(i=i);h8/[o-u](o>u|l=1);h7(!(f>8));k3(m<n)" : "r2(n<2&u>v);r1(i=i)";
-        x.check(0);
-        for (int i = 0; i < text.length(); i += 20) {
-            int[] numbers = new int[5];
-            for (int k = 0; k < 20; k++) {
-                numbers[k / 4] = numbers[k / 4] << 8 | (i + k < text.length() ? text.charAt(i + k) : 'a');
-            }
-            x.feed(numbers[0], numbers[1], numbers[2], numbers[3], numbers[4]);
-        }
+        Due.feed(x, text);
         int answer = isLaw ? x.law(text.length()) : x.rule(draw(4), text.length());
         due("text " + answer, answer > 0);
     }
