@@ -44,27 +44,25 @@ public final class LanguageTest {
     }
 
     private static void words(String code) {
-        String[] never = {"throw", "throws", "try", "catch", "finally", "synchronized", "assert", "package", "while", "do",
-            "String", "Object", "System\\.out", "Exact", "MAX_VALUE", "MIN_VALUE", "hashCode", "equals", "Thread", "Random",
-            "double", "float", "protected", "instanceof", "volatile", "transient", "native"};
+        String[] never = {"throw", "throws", "try", "catch", "finally", "synchronized", "assert", "package", "Object", "System\\.out",
+            "\\w+Exact", "MAX_VALUE", "MIN_VALUE", "hashCode", "Thread", "Random", "protected", "volatile", "transient", "native", "strictfp"};
         for (String word : never) {
             due("no word " + word, !Pattern.compile("\\b" + word + "\\b").matcher(code).find());
         }
         due("no lambda", !code.contains("->"));
         due("no method reference", !code.contains("::"));
-        due("no string", !code.contains("\""));
         Set<String> imports = new TreeSet<>();
         Matcher matcher = Pattern.compile("import ([^;]*);").matcher(code);
         while (matcher.find()) {
             imports.add(matcher.group(1));
         }
-        due("Arrays alone is imported", imports.equals(Set.of("java.util.Arrays")));
-        Set<String> library = new TreeSet<>();
-        Matcher calls = Pattern.compile("\\b(Arrays|System|Math|Integer|Long)\\.(\\w+)").matcher(code);
+        Set<String> mayImport = Set.of("java.util.Arrays", "java.util.ArrayList", "java.util.List", "java.util.Iterator");
+        due("imports: " + imports, mayImport.containsAll(imports));
+        Matcher calls = Pattern.compile("\\b(Arrays|System)\\.(\\w+)").matcher(code);
+        Set<String> mayCall = Set.of("Arrays.fill", "Arrays.copyOf", "Arrays.copyOfRange", "System.arraycopy");
         while (calls.find()) {
-            library.add(calls.group());
+            due("of the library: " + calls.group(), mayCall.contains(calls.group()));
         }
-        due("the library: " + library, Set.of("Arrays.fill", "System.arraycopy", "Math.max", "Math.min").containsAll(library));
         Matcher statics = Pattern.compile("\\bstatic ([\\w\\[\\]]+ )*[\\w\\[\\]]+ \\w+ =").matcher(code);
         while (statics.find()) {
             due("final: " + statics.group(), statics.group().contains("final "));
