@@ -12,10 +12,15 @@ final class Due {
     private Due() {
     }
 
-    /** What follows tells of a promise (0: of the words that stand ahead of them). */
+    /** What follows tells of a promise (0: of what stands ahead of all). */
     static void promise(int number) {
         promise = number;
         words = "";
+    }
+
+    /** Within a sentence on all calls: which promise the next call is of. */
+    static void callOf(int number) {
+        promise = number;
     }
 
     /** One sentence of the document: its words, and a test of its own. */

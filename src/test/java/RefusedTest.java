@@ -103,7 +103,8 @@ public final class RefusedTest {
         }
     }
 
-    private static void refused(String what, long answer, Call call) {
+    private static void refused(int promise, String what, long answer, Call call) {
+        Due.callOf(promise);
         PointOrShoot x = furnished();
         Due.due(what, call.of(x), answer);
         Due.due("the tape behind " + what, x.count(2), TAPE);
@@ -121,79 +122,81 @@ public final class RefusedTest {
 
     private static void refusedTexts() {
         Due.sentence("A call that is refused (NONE, false) changes nothing: feed, law, rule, ground, check", () -> {
-            refused("law(0)", -1, x -> x.law(0));
-            refused("law(-1)", -1, x -> x.law(-1));
-            refused("law(41)", -1, x -> x.law(41));
-            refused("law(241)", -1, x -> x.law(241));
-            refused("rule(-1, 7)", -1, x -> x.rule(-1, 7));
-            refused("rule(4, 7)", -1, x -> x.rule(4, 7));
-            refused("rule(0, 0)", -1, x -> x.rule(0, 0));
-            refused("rule(0, 41)", -1, x -> x.rule(0, 41));
-            refused("rule(0, 241)", -1, x -> x.rule(0, 241));
-            refused("ground(0)", -1, x -> x.ground(0));
-            refused("ground(41)", -1, x -> x.ground(41));
-            refused("ground(121)", -1, x -> x.ground(121));
-            refused("check(-1)", -2, x -> x.check(-1));
-            refused("check(9)", -2, x -> x.check(9));
-            refused("check(1 << 30)", -2, x -> x.check(1 << 30));
+            refused(4, "law(0)", -1, x -> x.law(0));
+            refused(4, "law(-1)", -1, x -> x.law(-1));
+            refused(4, "law(41)", -1, x -> x.law(41));
+            refused(4, "law(241)", -1, x -> x.law(241));
+            refused(5, "rule(-1, 7)", -1, x -> x.rule(-1, 7));
+            refused(5, "rule(4, 7)", -1, x -> x.rule(4, 7));
+            refused(5, "rule(0, 0)", -1, x -> x.rule(0, 0));
+            refused(5, "rule(0, 41)", -1, x -> x.rule(0, 41));
+            refused(5, "rule(0, 241)", -1, x -> x.rule(0, 241));
+            refused(6, "ground(0)", -1, x -> x.ground(0));
+            refused(6, "ground(41)", -1, x -> x.ground(41));
+            refused(6, "ground(121)", -1, x -> x.ground(121));
+            refused(34, "check(-1)", -2, x -> x.check(-1));
+            refused(34, "check(9)", -2, x -> x.check(9));
+            refused(34, "check(1 << 30)", -2, x -> x.check(1 << 30));
         });
     }
 
     private static void refusedQuestions() {
         Due.sentence("A call that is refused changes nothing: ends", () -> {
-            refused("far(5)", 0, x -> x.far(5) ? 1 : 0);
-            refused("far(11)", 0, x -> x.far(11) ? 1 : 0);
-            refused("turn", -1, x -> x.turn(4, 0, 0));
-            refused("points", -100, x -> x.points(0, 4));
-            refused("chance", -1, x -> x.chance(0, 0, 0, 1, 0));
-            refused("best", Due.NO_VALUE, x -> x.best(4, 0, 0, 0));
-            refused("likely", -1, x -> x.likely(0, 0, 0, 4));
-            refused("goFor", Due.NO_VALUE, x -> x.goFor(0, 0, 0, -4, 0));
-            refused("toThrow", Due.NO_VALUE, x -> x.toThrow(2, 0));
-            refused("by", Due.NO_VALUE, x -> x.by(1, 0, 30000, 30000, 0, 0));
-            refused("lastBall", Due.NO_VALUE, x -> x.lastBall(3));
-            refused("game", -1, x -> x.game(4));
-            refused("match", -1, x -> x.match(13, 13, 0));
+            refused(2, "far(5)", 0, x -> x.far(5) ? 1 : 0);
+            refused(2, "far(11)", 0, x -> x.far(11) ? 1 : 0);
+            refused(7, "turn", -1, x -> x.turn(4, 0, 0));
+            refused(8, "points", -100, x -> x.points(0, 4));
+            refused(9, "chance", -1, x -> x.chance(0, 0, 0, 1, 0));
+            refused(10, "best", Due.NO_VALUE, x -> x.best(4, 0, 0, 0));
+            refused(11, "likely", -1, x -> x.likely(0, 0, 0, 4));
+            refused(12, "goFor", Due.NO_VALUE, x -> x.goFor(0, 0, 0, -4, 0));
+            refused(13, "toThrow", Due.NO_VALUE, x -> x.toThrow(2, 0));
+            refused(14, "by", Due.NO_VALUE, x -> x.by(1, 0, 30000, 30000, 0, 0));
+            refused(15, "lastBall", Due.NO_VALUE, x -> x.lastBall(3));
+            refused(16, "game", -1, x -> x.game(4));
+            refused(17, "match", -1, x -> x.match(13, 13, 0));
         });
         Due.sentence("A call that is refused changes nothing: drawn, log, wrong", () -> {
-            refused("drawn by a RULE not told", -100, x -> x.drawn(1, 0, 30000, 30000, 0));
-            refused("drawn by RULE 4", -100, x -> x.drawn(0, 4, 30000, 30000, 0));
-            refused("drawn from a CODE", -100, x -> x.drawn(0, 0, 40000, 30000, 0));
-            refused("drawn, LAST 2", -100, x -> x.drawn(0, 0, 30000, 30000, 2));
-            refused("log", -1, x -> x.log(9));
-            refused("wrong", -1, x -> x.wrong(6, 0));
-            refused("wrong", -1, x -> x.wrong(0, 3));
+            refused(18, "drawn by a RULE not told", -100, x -> x.drawn(1, 0, 30000, 30000, 0));
+            refused(18, "drawn by RULE 4", -100, x -> x.drawn(0, 4, 30000, 30000, 0));
+            refused(18, "drawn from a CODE", -100, x -> x.drawn(0, 0, 40000, 30000, 0));
+            refused(18, "drawn, LAST 2", -100, x -> x.drawn(0, 0, 30000, 30000, 2));
+            refused(19, "log", -1, x -> x.log(9));
+            refused(20, "wrong", -1, x -> x.wrong(6, 0));
+            refused(20, "wrong", -1, x -> x.wrong(0, 3));
         });
     }
 
     private static void refusedOnField() {
         Due.sentence("A call that is refused changes nothing: the book, the ground, the field", () -> {
-            refused("shot(5)", -1, x -> x.shot(5, true));
-            refused("shot(11)", -1, x -> x.shot(11, false));
-            refused("book", -1, x -> x.book(2));
-            refused("fits", -1, x -> x.fits(11, 0, 5, 0));
-            refused("roll", -1, x -> x.roll(8, 0, 0, 1, 0));
-            refused("lay", -1, x -> x.lay(0, 8, 0));
-            refused("ball of SIDE 2", -1, x -> x.ball(2, 1, 1));
-            refused("ball at 100", -1, x -> x.ball(0, 100, 1));
-            refused("ball at -1", -1, x -> x.ball(0, 1, -1));
-            refused("pig at 100", 0, x -> x.pig(100, 1) ? 1 : 0);
-            refused("pig at -1", 0, x -> x.pig(1, -1) ? 1 : 0);
-            refused("gone(3)", 0, x -> x.gone(3) ? 1 : 0);
-            refused("gone(-1)", 0, x -> x.gone(-1) ? 1 : 0);
-            refused("measured", -100, x -> x.measured(4));
-            refused("toShoot", -1, x -> x.toShoot(2));
-            refused("seed(-1)", 0, x -> x.seed(-1) ? 1 : 0);
-            refused("seed(65536)", 0, x -> x.seed(65536) ? 1 : 0);
-            refused("count", -1, x -> x.count(164));
+            refused(21, "shot(5)", -1, x -> x.shot(5, true));
+            refused(21, "shot(11)", -1, x -> x.shot(11, false));
+            refused(22, "book", -1, x -> x.book(2));
+            refused(23, "fits", -1, x -> x.fits(11, 0, 5, 0));
+            refused(24, "roll", -1, x -> x.roll(8, 0, 0, 1, 0));
+            refused(25, "lay", -1, x -> x.lay(0, 8, 0));
+            refused(26, "ball of SIDE 2", -1, x -> x.ball(2, 1, 1));
+            refused(26, "ball at 100", -1, x -> x.ball(0, 100, 1));
+            refused(26, "ball at -1", -1, x -> x.ball(0, 1, -1));
+            refused(27, "pig at 100", 0, x -> x.pig(100, 1) ? 1 : 0);
+            refused(27, "pig at -1", 0, x -> x.pig(1, -1) ? 1 : 0);
+            refused(28, "gone(3)", 0, x -> x.gone(3) ? 1 : 0);
+            refused(28, "gone(-1)", 0, x -> x.gone(-1) ? 1 : 0);
+            refused(29, "measured", -100, x -> x.measured(4));
+            refused(30, "toShoot", -1, x -> x.toShoot(2));
+            refused(31, "seed(-1)", 0, x -> x.seed(-1) ? 1 : 0);
+            refused(31, "seed(65536)", 0, x -> x.seed(65536) ? 1 : 0);
+            refused(35, "count", -1, x -> x.count(164));
         });
     }
 
     private static void faults() {
         Due.sentence("but the tape, where it is told: a FAULT", () -> {
             String[] names = {"law", "rule 2", "rule 1", "ground"};
+            int[] promises = {4, 5, 5, 6};
             Call[] calls = {x -> x.law(40), x -> x.rule(2, 40), x -> x.rule(1, 40), x -> x.ground(40)};
             for (int i = 0; i < calls.length; i++) {
+                Due.callOf(promises[i]);
                 PointOrShoot x = furnished();
                 PointOrShoot y = furnished();
                 Due.due(names[i], calls[i].of(x), -1000);
@@ -206,6 +209,7 @@ public final class RefusedTest {
 
     private static void refusedWhenFull() {
         Due.sentence("A call that is refused changes nothing: a 14th feed", () -> {
+            Due.callOf(3);
             PointOrShoot x = furnished();
             PointOrShoot y = furnished();
             for (int i = 0; i < 11; i++) {
@@ -216,6 +220,7 @@ public final class RefusedTest {
             alike("a 14th feed", x, y);
         });
         Due.sentence("A call that is refused changes nothing: a 61st shot", () -> {
+            Due.callOf(21);
             PointOrShoot x = furnished();
             PointOrShoot y = furnished();
             for (int i = 3; i < 60; i++) {
@@ -226,6 +231,7 @@ public final class RefusedTest {
             alike("a 61st shot", x, y);
         });
         Due.sentence("A call that is refused changes nothing: a 13th ball", () -> {
+            Due.callOf(26);
             PointOrShoot x = furnished();
             PointOrShoot y = furnished();
             for (int i = 3; i < 12; i++) {
@@ -236,6 +242,7 @@ public final class RefusedTest {
             alike("a 13th ball", x, y);
         });
         Due.sentence("A call that is refused changes nothing: undo where none was KEPT", () -> {
+            Due.callOf(33);
             PointOrShoot x = new PointOrShoot();
             PointOrShoot y = new PointOrShoot();
             for (PointOrShoot one : new PointOrShoot[] {x, y}) {
@@ -253,7 +260,8 @@ public final class RefusedTest {
 
     // ---- calls that ask
 
-    private static void asks(String what, Call call) {
+    private static void asks(int promise, String what, Call call) {
+        Due.callOf(promise);
         PointOrShoot x = furnished();
         call.of(x);
         alike(what, x, furnished());
@@ -261,29 +269,34 @@ public final class RefusedTest {
 
     private static void questions() {
         Due.sentence("calls that only ask change nothing", () -> {
-            asks("turn", x -> x.turn(30000, 30000, 0));
-            asks("points", x -> x.points(1000, 0));
-            asks("chance", x -> x.chance(30000, 30000, 0, 1, 0));
-            asks("best", x -> x.best(30000, 30000, 0, 0));
-            asks("likely", x -> x.likely(30000, 30000, 0, 1));
-            asks("goFor", x -> x.goFor(30000, 30000, 0, 1, 0));
-            asks("toThrow (FAR stays as it is.)", x -> x.toThrow(0, 0));
-            asks("toThrow (FAR stays as it is.)", x -> x.toThrow(1, 1));
-            asks("by", x -> x.by(0, 2, 30000, 30000, 0, 0));
-            asks("lastBall", x -> x.lastBall(0));
-            asks("game", x -> x.game(0) + x.game(2));
-            asks("match", x -> x.match(0, 0, 0));
-            asks("log", x -> x.log(0));
-            asks("wrong", x -> x.wrong(0, 1));
-            asks("fits", x -> x.fits(5, 1, 6, 0));
-            asks("roll", x -> x.roll(0, 0, 1, 9, 0));
-            asks("lay", x -> x.lay(3, 3, 0));
-            asks("measured", x -> x.measured(0) + x.measured(3));
-            asks("toShoot", x -> x.toShoot(0) + x.toShoot(1));
+            asks(7, "turn", x -> x.turn(30000, 30000, 0));
+            asks(8, "points", x -> x.points(1000, 0));
+            asks(9, "chance", x -> x.chance(30000, 30000, 0, 1, 0));
+            asks(10, "best", x -> x.best(30000, 30000, 0, 0));
+            asks(11, "likely", x -> x.likely(30000, 30000, 0, 1));
+            asks(12, "goFor", x -> x.goFor(30000, 30000, 0, 1, 0));
+            asks(13, "toThrow (FAR stays as it is.)", x -> x.toThrow(0, 0));
+            asks(13, "toThrow (FAR stays as it is.)", x -> x.toThrow(1, 1));
+            asks(14, "by", x -> x.by(0, 2, 30000, 30000, 0, 0));
+            asks(15, "lastBall", x -> x.lastBall(0));
+            asks(16, "game", x -> x.game(0) + x.game(2));
+            asks(17, "match", x -> x.match(0, 0, 0));
+            asks(19, "log", x -> x.log(0));
+            asks(20, "wrong", x -> x.wrong(0, 1));
+            asks(23, "fits", x -> x.fits(5, 1, 6, 0));
+            asks(24, "roll", x -> x.roll(0, 0, 1, 9, 0));
+            asks(25, "lay", x -> x.lay(3, 3, 0));
+            asks(29, "measured", x -> x.measured(0) + x.measured(3));
+            asks(30, "toShoot", x -> x.toShoot(0) + x.toShoot(1));
         });
     }
 
     // ---- what is told first
+
+    private static void told(int promise, String what, long got, long want) {
+        Due.callOf(promise);
+        Due.due(what, got, want);
+    }
 
     private static void toldFirst() {
         Due.sentence("NONE is told first, then a FAULT: no such n", () -> {
@@ -291,26 +304,26 @@ public final class RefusedTest {
             for (int i = 0; i < 13; i++) {
                 x.feed(0, 0, 0, 0, 0);
             }
-            Due.due("law(241)", x.law(241), -1);
-            Due.due("rule(0, 241)", x.rule(0, 241), -1);
-            Due.due("ground(121)", x.ground(121), -1);
-            Due.due("law(240)", x.law(240), -1000);
+            told(4, "law(241)", x.law(241), -1);
+            told(5, "rule(0, 241)", x.rule(0, 241), -1);
+            told(6, "ground(121)", x.ground(121), -1);
+            told(4, "law(240)", x.law(240), -1000);
         });
         Due.sentence("NONE is told first, then a FAULT: it has not so many", () -> {
             PointOrShoot x = new PointOrShoot();
             x.feed(0, 0, 0, 0, 0);
-            Due.due("law(21)", x.law(21), -1);
-            Due.due("rule(0, 21)", x.rule(0, 21), -1);
-            Due.due("ground(21)", x.ground(21), -1);
-            Due.due("ground(20)", x.ground(20), -1000);
+            told(4, "law(21)", x.law(21), -1);
+            told(5, "rule(0, 21)", x.rule(0, 21), -1);
+            told(6, "ground(21)", x.ground(21), -1);
+            told(6, "ground(20)", x.ground(20), -1000);
         });
         Due.sentence("NONE is told first, then a FAULT: no such RULE", () -> {
             PointOrShoot x = new PointOrShoot();
             x.feed(0, 0, 0, 0, 0);
-            Due.due("rule(4, 20)", x.rule(4, 20), -1);
-            Due.due("rule(-1, 20)", x.rule(-1, 20), -1);
+            told(5, "rule(4, 20)", x.rule(4, 20), -1);
+            told(5, "rule(-1, 20)", x.rule(-1, 20), -1);
             Due.due("the tape", x.count(2), 20);
-            Due.due("rule(3, 20)", x.rule(3, 20), -1000);
+            told(5, "rule(3, 20)", x.rule(3, 20), -1000);
         });
         Due.sentence("NONE is told first, then -2", () -> {
             PointOrShoot x = new PointOrShoot();
@@ -318,29 +331,30 @@ public final class RefusedTest {
             for (int y = 1; y < 8; y++) {
                 text.append("/76543210");
             }
-            Due.due("ground", Due.ground(x, text.toString()), 7);
-            Due.due("lay: none stays", x.lay(0, 0, 0), -2);
-            Due.due("lay: no such spot", x.lay(0, 8, 0), -1);
-            Due.due("lay: no such what", x.lay(0, 0, 3), -1);
-            Due.due("roll: gone", x.roll(0, 0, 3, 1, 0), -2);
-            Due.due("roll: no such what", x.roll(0, 0, 3, 1, 2), -1);
-            Due.due("game: no RULE", x.game(0), -2);
-            Due.due("game: no such what", x.game(4), -1);
-            Due.due("toShoot: none", x.toShoot(0), -2);
-            Due.due("toShoot: no such SIDE", x.toShoot(2), -1);
-            Due.due("measured: none", x.measured(2), -2);
-            Due.due("measured: no such what", x.measured(4), -100);
+            told(6, "ground", Due.ground(x, text.toString()), 7);
+            told(25, "lay: none stays", x.lay(0, 0, 0), -2);
+            told(25, "lay: no such spot", x.lay(0, 8, 0), -1);
+            told(25, "lay: no such what", x.lay(0, 0, 3), -1);
+            told(24, "roll: gone", x.roll(0, 0, 3, 1, 0), -2);
+            told(24, "roll: no such what", x.roll(0, 0, 3, 1, 2), -1);
+            told(16, "game: no RULE", x.game(0), -2);
+            told(16, "game: no such what", x.game(4), -1);
+            told(30, "toShoot: none", x.toShoot(0), -2);
+            told(30, "toShoot: no such SIDE", x.toShoot(2), -1);
+            told(29, "measured: none", x.measured(2), -2);
+            told(29, "measured: no such what", x.measured(4), -100);
         });
         Due.sentence("check: -2 is told where NONE is: right", () -> {
             PointOrShoot x = new PointOrShoot();
-            Due.due("no such n, it has not so many", x.check(9), -2);
-            Due.due("right", x.check(0), -1);
+            told(34, "no such n, it has not so many", x.check(9), -2);
+            told(34, "right", x.check(0), -1);
         });
     }
 
     // ---- 512 calls
 
     private static void calls512() {
+        Due.promise(0);
         Due.sentence("An object is used for at most 512 calls: the dearest ones", () -> {
             PointOrShoot x = new PointOrShoot();
             Due.law(x, "a10(i=0&f=8);h5(i=1)");
